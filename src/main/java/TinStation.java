@@ -703,10 +703,9 @@ public final class TinStation {
             for (int p = 0; p < people; p++) {
                 if (mends(p)) {
                     ticksLeft[p]--;
-                    if (ticksLeft[p] <= 0) {
+                    if (ticksLeft[p] == 0) {
                         plant.makeNew(mended[p]);
                         mended[p] = NOBODY;
-                        ticksLeft[p] = 0;
                     }
                 }
             }

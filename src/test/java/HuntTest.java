@@ -106,6 +106,16 @@ public final class HuntTest {
         y.test(2, 3);
         Due.is("SUSPECTS 0, 3", y.suspects(), 9);
         Due.is("the fewest HATCHES", y.best(0), 1);
+        TinStation ring = Due.withModules(3);
+        ring.hatch(0, 1);
+        ring.hatch(1, 2);
+        ring.hatch(0, 2);
+        ring.hunt();
+        Due.is("SUSPECTS 0, 2", ring.test(3, 0), 5);
+        Due.is("the one that is less as bits", ring.best(0), 5);
+        Due.is("SUSPECT 0", ring.test(7, 0), 1);
+        Due.is("nothing to close", ring.best(0), 0);
+        Due.is("one at worst", ring.best(1), 1);
         TinStation z = Due.withModules(3);
         z.hatch(0, 1);
         z.hatch(1, 2);

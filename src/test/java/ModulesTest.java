@@ -116,6 +116,10 @@ public final class ModulesTest {
         x.ticks(1);
         Due.is("HEAT left", x.gas(0, 4, -1), 1000);
         Due.is("SPACE's heat", x.tank(5, -1), 0);
+        x.leak(0, 1);
+        x.gas(0, 0, 999);
+        x.ticks(1);
+        Due.is("less than one gram", x.tank(4, -1), 0);
     }
 
     private static void tank() {

@@ -124,6 +124,16 @@ public final class ReadingsTest {
         x.ticks(1);
         x.calibrate(0, 999);
         Due.is("a yet later one doesn't matter", x.worked(1), 91);
+        TinStation z = new TinStation();
+        z.read(0, 100);
+        z.ticks(1);
+        z.calibrate(0, 30);
+        Due.is("ahead of the only one", z.worked(0), 70);
+        z.ticks(1);
+        z.read(0, 100);
+        z.ticks(1);
+        z.calibrate(0, 40);
+        Due.is("just between", z.worked(1), 65);
         TinStation y = new TinStation();
         y.read(0, 100);
         y.ticks(1);

@@ -14,6 +14,11 @@ public final class TicksTest {
         ahead();
         aheadChangesNothing();
         aheadWithTextAndRepairs();
+        aheadFromAnotherStation();
+        aheadWithStore();
+        aheadWithSpares();
+        aheadWithSafe();
+        theFullest();
         Due.end();
     }
 
@@ -327,5 +332,128 @@ public final class TicksTest {
         y.repair(0, 0, 1);
         Due.is("REPAIRED in the next: 8 more", y.ahead(200), 3);
         Due.is("it isn't yet", y.of(0, 6), 1);
+    }
+
+    /** A look ahead starts from what is now, whatever an earlier look came to. */
+    private static void aheadFromAnotherStation() {
+        TinStation x = Due.withModules(3);
+        x.hatch(2, 1);
+        x.person(1);
+        x.gas(2, 0, 1000);
+        x.bounds(240, 100000, 100000);
+        Due.is("OXYGEN comes over the HATCH", x.ahead(1), 0);
+        Due.is("and is used up", x.ahead(200), 130);
+        x.machine(2, 1, Due.use(90, 30, 0), 1);
+        x.spares(2, 2);
+        x.tank(0, 10000);
+        x.sun(0, 100);
+        x.battery(100);
+        x.ticks(1);
+        x.repair(0, 0, 3);
+        int due = realAhead(x, 3, 100);
+        Due.is("REPAIRED in three", x.ahead(200), due);
+        Due.is("and asked again", x.ahead(200), due);
+    }
+
+    /** What it comes to with the breath of one who works, 6, and 80 grams after some ticks. */
+    private static int realAhead(TinStation x, int hours, int power) {
+        long here = x.gas(1, 0, -1);
+        long there = x.gas(2, 0, -1);
+        for (int t = 1; t <= 200; t++) {
+            here += t == hours && power >= 30 ? 80 : 0;
+            here -= 6;
+            long flow = (there - here) / 4;
+            here += flow;
+            there -= flow;
+            if (here < 240) {
+                return t;
+            }
+        }
+        return 0;
+    }
+
+    /** One sleeps, and a COOLER that runs leaves 12 HEAT of each TICK, one that doesn't 10 more. */
+    private static TinStation cooled(int power, int life) {
+        TinStation x = Due.withModules(1);
+        x.person(0);
+        x.machine(5, 0, Due.use(10, power, 0), life);
+        x.spares(5, 1);
+        x.bounds(0, 100000, 21);
+        return x;
+    }
+
+    private static void aheadWithStore() {
+        TinStation x = cooled(50, 1000);
+        x.sun(100, 60);
+        Due.is("THE BATTERY doesn't last through the dark", x.ahead(200), 8);
+        x.sun(100, 160);
+        Due.is("THE BATTERY lasts", x.ahead(200), 0);
+    }
+
+    private static void aheadWithSpares() {
+        TinStation x = cooled(0, 5);
+        x.ticks(5);
+        Due.is("FAULT", x.of(0, 6), 1);
+        x.bounds(0, 100000, 50);
+        x.gas(0, 4, 0);
+        x.line(11, 0, 0, 1);
+        x.begin();
+        Due.is("is mended by THE TEXT", x.ahead(200), 8);
+        x.spares(5, 0);
+        Due.is("there is no SPARE", x.ahead(200), 6);
+    }
+
+    private static void aheadWithSafe() {
+        TinStation x = cooledWithSafe();
+        x.ticks(1);
+        Due.is("ABORT, then OFF at the SAFE LINE", x.ahead(200), 2);
+        x.ticks(1);
+        Due.is("OFF is next", x.ahead(200), 1);
+        TinStation y = cooledWithSafe();
+        y.ticks(4);
+        Due.is("ABORTING already: no OFF any more", y.ahead(200), 0);
+    }
+
+    private static TinStation cooledWithSafe() {
+        TinStation x = cooled(0, 1000);
+        x.line(8, 2, 0, 0);
+        x.line(10, 0, 0, 0);
+        x.line(3, 0, 0, 0);
+        x.line(2, 0, 0, 0);
+        x.line(10, 0, 0, 0);
+        x.begin();
+        return x;
+    }
+
+    private static void theFullest() {
+        TinStation x = Due.withModules(6);
+        for (int h = 0; h < 8; h++) {
+            x.hatch(h % 6, (h + 1) % 6);
+        }
+        for (int p = 0; p < 6; p++) {
+            x.person(p);
+            x.gas(p, 0, 10000);
+            x.leak(p, 50);
+        }
+        for (int i = 0; i < 10; i++) {
+            x.machine(i % 6, i % 6, Due.use(100, 10, 10), 20 + i);
+            x.spares(i % 6, 20);
+        }
+        x.tank(0, 100000);
+        x.sun(100, 5000);
+        for (int n = 0; n < 40; n++) {
+            x.line(9, n == 39 ? 0 : n + 1, 0, 0);
+        }
+        x.begin();
+        int all = x.grams();
+        for (int n = 0; n < 30; n++) {
+            Due.is("ahead()", x.ahead(200) >= 0 ? 1 : 0, 1);
+            Due.is("ticks(10)", x.ticks(10), 10 * n + 10);
+            Due.is("each gram is somewhere", x.grams(), all);
+            for (int p = 0; p < 6; p++) {
+                x.repair(p, p, 3);
+            }
+        }
+        Due.is("THE TEXT went round", x.text(1), 300 % 40);
     }
 }
