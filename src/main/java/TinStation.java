@@ -1322,7 +1322,7 @@ public final class TinStation {
             }
         }
 
-        /** The act of hand that a line stands for; its finding isn't counted, no call answered it. */
+        /** The act of hand that a line stands for. No call answered its finding: not counted. */
         private int actByText(int at) {
             int a = script.a[at];
             int b = script.b[at];
