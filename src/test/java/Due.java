@@ -7,6 +7,9 @@ final class Due {
     static final int FULL = LOW - 4;
     static final int KIND = LOW - 5;
 
+    /** The sentence of the document that is being held, for what is printed. */
+    static String sentence = "";
+
     private static int asked;
     private static int wrong;
 
@@ -18,7 +21,7 @@ final class Due {
         if (got != want) {
             wrong++;
             if (wrong <= 50) {
-                System.out.println(call + " answered " + got + ", due is " + want);
+                System.out.println(sentence + call + " answered " + got + ", due is " + want);
             }
         }
     }
@@ -28,7 +31,7 @@ final class Due {
         if (!got.equals(want)) {
             wrong++;
             if (wrong <= 50) {
-                System.out.println(what + ":\n  is  " + got + "\n  due " + want);
+                System.out.println(sentence + what + ":\n  is  " + got + "\n  due " + want);
             }
         }
     }
