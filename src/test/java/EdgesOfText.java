@@ -284,6 +284,7 @@ final class EdgesOfText {
             Due.is("MODULE 7 of the greatest b", checked(x, a, Integer.MAX_VALUE), -1);
             Due.is("the most of MODULE 0", checked(x, a, 2147483640), 2);
             Due.is("b -1", checked(x, a, -1), -1);
+            Due.is("-1 or more in 0", checked(x, a, -10), 1);
             Due.is("the least b", checked(x, a, Integer.MIN_VALUE), -1);
         }
         TinStation y = home();
@@ -316,6 +317,8 @@ final class EdgesOfText {
         Due.is("0 of none", checked(x, 6, 0), 1);
         Due.is("9 / 10 of none", checked(x, 6, 9), 1);
         Due.is("1 of none", checked(x, 6, 10), 2);
+        Due.is("-9 / 10 is cut to 0", checked(x, 6, -9), 1);
+        Due.is("-1 of none", checked(x, 6, -10), 1);
         x.sun(0, 5000);
         x.battery(5000);
         Due.is("just as much", checked(x, 6, 50000), 1);
@@ -431,8 +434,9 @@ final class EdgesOfText {
                 + "SAFE, WAIT with a number that is none) ABORTS it, as ABORT does:");
         int[][] cannot = {{ABORT}, {ON, 2}, {OFF, -1}, {OPEN, 1}, {CLOSE, -1}, {GO, 1, 1},
             {GO, 0, 0}, {GO, 0, 2}, {MEND, 0, 1, 1}, {MEND, 0, 0, 0}, {MEND, 0, 0, 61},
-            {CHECK, 8, 0, 0}, {CHECK, 0, 2, 0}, {CHECK, 5, 4, 0}, {CHECK, 7, 2, 0}, {CHECK, 7, 10, 0},
-            {CHECK, 6, 0, 4}, {JUMP, 4}, {JUMP, -1}, {SAFE, 4}, {SAFE, -1}, {WAIT, 0}, {WAIT, 101}};
+            {CHECK, 8, 0, 0}, {CHECK, 0, 2, 0}, {CHECK, 5, 4, 0}, {CHECK, 7, 2, 0},
+            {CHECK, 7, 10, 0}, {CHECK, 6, 0, 4}, {JUMP, 4}, {JUMP, -1}, {SAFE, 4}, {SAFE, -1},
+            {WAIT, 0}, {WAIT, 101}};
         for (int[] c : cannot) {
             TinStation x = with(home(), l(SAFE, 3), c, l(END), l(WAIT, 9));
             String was = withoutText(x);

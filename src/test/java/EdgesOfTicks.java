@@ -189,6 +189,10 @@ final class EdgesOfTicks {
         Due.is("broken already: the next", broken.ahead(200), 1);
         broken.gas(0, 0, 211);
         Due.is("THE FIRST one is no matter", broken.ahead(200), 3);
+        TinStation last = breathing(1000);
+        Due.pass(last, 3000);
+        last.gas(0, 0, 208);
+        Due.is("from the last TICK on, too", last.ahead(200), 3);
         aheadWithText();
         aheadWithRepairs();
     }
