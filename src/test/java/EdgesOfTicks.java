@@ -370,6 +370,34 @@ final class EdgesOfTicks {
         Due.is("not yet", y.broke(0), Due.NONE);
         y.ticks(1);
         Due.is("then", y.broke(0), now + first - 1);
+        for (int t = 0; t < first; t++) {
+            Due.is("asked in each TICK", twin.ahead(200), first - t);
+            twin.ticks(1);
+        }
+        aheadBehindOtherPlans();
+    }
+
+    /** An earlier look, of a station that was set otherwise, leaves nothing to a later one. */
+    private static void aheadBehindOtherPlans() {
+        TinStation x = Due.withModules(2);
+        x.person(0);
+        x.machine(5, 1, Due.use(9, 0, 0), 1);
+        x.machine(5, 0, Due.use(1, 50, 0), 3);
+        x.sun(50, 0);
+        x.bounds(0, 100000, 60);
+        Due.is("cooled for three, then 10 more each", x.ahead(200), 8);
+        x.bounds(0, 100000, 80);
+        Due.is("a greater bound", x.ahead(200), 10);
+        x.bounds(100000, 100000, 80);
+        Due.is("a least OXYGEN", x.ahead(200), 1);
+        x.bounds(0, 100000, 60);
+        x.sun(0, 100);
+        x.battery(99);
+        Due.is("POWER for one", x.ahead(200), 6);
+        x.battery(100);
+        Due.is("POWER for two", x.ahead(200), 7);
+        x.sun(0, 50);
+        Due.is("STORE for one", x.ahead(200), 6);
     }
 
     private static void aheadBeyond() {
