@@ -15,7 +15,7 @@ public final class TinStation {
     private static final int FINDINGS = 5;
 
     private static final int STAY = -1;
-    private static final int NOBODY = -1;
+    private static final int NO_MACHINE = -1;
 
     private static final int MOST_MODULES = 6;
     private static final int MOST_HATCHES = 8;
@@ -418,8 +418,11 @@ public final class TinStation {
         System.arraycopy(from, 0, to, 0, Math.min(from.length, to.length));
     }
 
+    /** One by one: the library's copying is for numbers. */
     private static void copyFlags(boolean[] from, boolean[] to) {
-        System.arraycopy(from, 0, to, 0, Math.min(from.length, to.length));
+        for (int i = 0; i < from.length && i < to.length; i++) {
+            to[i] = from[i];
+        }
     }
 
     /** Where each gram and all heat is: modules, tanks and space, and the hatches between. */
@@ -627,7 +630,7 @@ public final class TinStation {
         }
 
         boolean mends(int p) {
-            return mended[p] != NOBODY;
+            return mended[p] != NO_MACHINE;
         }
 
         int addPerson(int m) {
@@ -635,7 +638,7 @@ public final class TinStation {
                 return FULL;
             }
             place[people] = m;
-            mended[people] = NOBODY;
+            mended[people] = NO_MACHINE;
             people++;
             return people - 1;
         }
@@ -705,7 +708,7 @@ public final class TinStation {
                     ticksLeft[p]--;
                     if (ticksLeft[p] == 0) {
                         plant.makeNew(mended[p]);
-                        mended[p] = NOBODY;
+                        mended[p] = NO_MACHINE;
                     }
                 }
             }

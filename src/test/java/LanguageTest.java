@@ -28,6 +28,7 @@ public final class LanguageTest {
         everySignIsPlain(code);
         String bare = code.replaceAll("(?s)/\\*.*?\\*/", "").replaceAll("//[^\n]*", "");
         nothingForbidden(bare);
+        copiesNumbersOnly(bare);
         methodsAreShort(bare);
         classes();
         sizeOfAnObject();
@@ -56,6 +57,14 @@ public final class LanguageTest {
             boolean fine = own.contains(library.group(1)) || known.contains(call);
             Due.is(call + " is of the library's part", fine ? 1 : 0, 1);
         }
+    }
+
+    /** The library's copying is for arrays of numbers; boolean ones go one by one. */
+    private static void copiesNumbersOnly(String bare) {
+        Pattern copy = Pattern.compile("void copy\\(int\\[\\] from, int\\[\\] to\\) \\{\\s*"
+                + "System\\.arraycopy\\(from, 0, to, 0, Math\\.min\\(from\\.length, to\\.length\\)\\);");
+        Due.is("ints are copied by the library", copy.matcher(bare).find() ? 1 : 0, 1);
+        Due.is("so much is", Pattern.compile("\\barraycopy\\b").matcher(bare).results().count(), 1);
     }
 
     private static void methodsAreShort(String bare) {
